@@ -11,6 +11,7 @@ public final class LineTest {
         numbers();
         times();
         halvesOfTheDay();
+        nothingStandsBehindTheEnd();
         quotedTexts();
         marksAndOthers();
         noTwentyFifthToken();
@@ -31,6 +32,8 @@ public final class LineTest {
         Check.due("read", t.read(0), 1);
         Check.due("length", t.token(0, 2), 80);
         Check.due("type then", t.type('a'), 1);
+        WordTables u = new WordTables(6);
+        Check.tokens(u, Check.times(' ', 79) + "!", 0, Check.row(5, 79, 1, '!'));
     }
 
     private static void typeTakesBytesAlone() {
@@ -121,6 +124,7 @@ public final class LineTest {
         Check.tokens(t, "9:60", 0, Check.row(2, 0, 1, 9), Check.row(6, 1, 1, Check.NONE),
                 Check.row(2, 2, 2, 60));
         Check.tokens(t, "9:5", 0, Check.row(2, 0, 1, 9), Check.row(6, 1, 1, Check.NONE), Check.row(2, 2, 1, 5));
+        Check.tokens(t, "9:-5", 0, Check.row(2, 0, 1, 9), Check.row(6, 1, 2, Check.NONE), Check.row(2, 3, 1, 5));
         Check.tokens(t, "9:", 0, Check.row(2, 0, 1, 9), Check.row(6, 1, 1, Check.NONE));
         Check.tokens(t, "9:055", 0, Check.row(2, 0, 1, 9), Check.row(6, 1, 1, Check.NONE),
                 Check.row(2, 2, 3, 55));
@@ -153,6 +157,28 @@ public final class LineTest {
         Check.tokens(t, "1:30pp", 0, Check.row(3, 0, 4, 90), Check.row(1, 4, 2, Check.NONE));
         Check.tokens(t, "1:30mm", 0, Check.row(3, 0, 4, 90), Check.row(1, 4, 2, Check.NONE));
         Check.tokens(t, "1pm", 0, Check.row(2, 0, 1, 1), Check.row(1, 1, 2, Check.NONE));
+    }
+
+    /** A longer line that was read before must not show behind the end of a shorter one. */
+    private static void nothingStandsBehindTheEnd() {
+        WordTables t = new WordTables(6);
+        int lamp = Check.word(t, "lamp", 0, Check.NOUN);
+        Check.tokens(t, "1:30pm", 0, Check.row(3, 0, 6, 810));
+        Check.tokens(t, "1:30", 0, Check.row(3, 0, 4, 90));
+        Check.tokens(t, "1:30p", 0, Check.row(3, 0, 4, 90), Check.row(1, 4, 1, Check.NONE));
+        Check.tokens(t, "1:30pmx", 0, Check.row(3, 0, 4, 90), Check.row(1, 4, 3, Check.NONE));
+        Check.tokens(t, "1:30pm", 0, Check.row(3, 0, 6, 810));
+        Check.tokens(t, "1:305", 0, Check.row(2, 0, 1, 1), Check.row(6, 1, 1, Check.NONE), Check.row(2, 2, 3, 305));
+        Check.tokens(t, "1:30", 0, Check.row(3, 0, 4, 90));
+        Check.tokens(t, "1:3", 0, Check.row(2, 0, 1, 1), Check.row(6, 1, 1, Check.NONE), Check.row(2, 2, 1, 3));
+        Check.tokens(t, "1", 0, Check.row(2, 0, 1, 1));
+        Check.tokens(t, "lamps", 0, Check.row(1, 0, 5, Check.NONE));
+        Check.tokens(t, "lamp", 0, Check.row(0, 0, 4, lamp));
+        Check.tokens(t, "\"a\"", 0, Check.row(4, 0, 3, 1));
+        Check.tokens(t, "\"a", 0, Check.row(6, 0, 2, Check.NONE));
+        Check.tokens(t, "--", 0, Check.row(6, 0, 2, Check.NONE));
+        Check.tokens(t, "-", 0, Check.row(6, 0, 1, Check.NONE));
+        Check.due("no second byte", t.at(0, 1), Check.UNKNOWN);
     }
 
     private static void quotedTexts() {

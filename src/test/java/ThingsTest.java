@@ -6,6 +6,7 @@ public final class ThingsTest {
         meaningsHaveRoomForSixty();
         flagsTellWhatTheyWere();
         referTellsWhatItDid();
+        meantByNone();
         meantUnderFlags();
         meantByPlurals();
         meantByPronouns();
@@ -113,6 +114,15 @@ public final class ThingsTest {
         Check.due("to all", t.refer(it, 4095), 2);
         Check.due("to a 13th", t.refer(it, 4096), Check.OUTSIDE);
         Check.due("to none", t.refer(it, 0), 4095);
+    }
+
+    private static void meantByNone() {
+        WordTables t = new WordTables(6);
+        Check.word(t, "lamp", 0, Check.NOUN | Check.PRONOUN);
+        t.thing();
+        t.flag(0, true);
+        Check.read(t, "lamp", 0);
+        Check.due("no meanings", t.meant(0), 0);
     }
 
     private static void meantUnderFlags() {
