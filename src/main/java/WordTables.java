@@ -387,10 +387,6 @@ public final class WordTables {
             }
         }
 
-        static boolean isGreat(int c) {
-            return c >= 'A' && c <= 'Z';
-        }
-
         static boolean isSmall(int c) {
             return c >= 'a' && c <= 'z';
         }
@@ -400,20 +396,22 @@ public final class WordTables {
         }
 
         static boolean isLetter(int c) {
-            return isGreat(c) || isSmall(c) || isFoldable(c);
+            return c >= 'A' && c <= 'Z' || isSmall(c) || isFoldable(c);
         }
 
         /** What is no letter comes back as it is, so that a place past the line's end may be asked for. */
         int folded(int c) {
-            if (isGreat(c)) {
-                return c - 'A' + 'a';
+            int slot = c - FIRST_FOLDABLE;
+            if (slot >= 0 && slot < folds.length) {
+                return folds[slot];
             }
-            return isFoldable(c) ? folds[c - FIRST_FOLDABLE] : c;
+            return c >= 'A' && c <= 'Z' ? c - 'A' + 'a' : c;
         }
 
         void changeFold(int from, int to) {
-            if (isFoldable(from)) {
-                folds[from - FIRST_FOLDABLE] = to;
+            int slot = from - FIRST_FOLDABLE;
+            if (slot >= 0 && slot < folds.length) {
+                folds[slot] = to;
             }
         }
 
