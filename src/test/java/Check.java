@@ -5,8 +5,14 @@ final class Check {
 
     private static int right = 0;
     private static int wrong = 0;
+    private static String sentence = "";
 
     private Check() {
+    }
+
+    /** The words of the document that the answers from here on hold; a wrong answer is told with them. */
+    static void sentence(String words) {
+        sentence = "[" + words + "] ";
     }
 
     static void due(String call, int got, int want) {
@@ -14,7 +20,7 @@ final class Check {
             right++;
         } else {
             wrong++;
-            System.out.println(call + " answered " + got + ", due is " + want);
+            System.out.println(sentence + call + " answered " + got + ", due is " + want);
         }
     }
 
@@ -78,6 +84,11 @@ final class Check {
 
     static int[] row(int... numbers) {
         return numbers;
+    }
+
+    /** The numbers beyond both ends of a range: the next ones, and the farthest that there are. */
+    static int[] beyond(int first, int last) {
+        return new int[] {first - 1, last + 1, Integer.MIN_VALUE, Integer.MAX_VALUE};
     }
 
     static String times(char c, int n) {

@@ -1,6 +1,12 @@
 /** Promise 23 (told): each count goes its own way. */
 public final class ToldTest {
     public static void main(String[] args) {
+        eachGoesItsOwnWay();
+        noneAndAll();
+        Check.end();
+    }
+
+    private static void eachGoesItsOwnWay() {
         WordTables t = new WordTables(6);
         int[] want = new int[7];
         counts(t, want);
@@ -41,7 +47,24 @@ public final class ToldTest {
         for (int what : wrong) {
             Check.due("told(" + what + ")", t.told(what), Check.UNKNOWN);
         }
-        Check.end();
+    }
+
+    /** The counts of empty and of full tables, the first and the last what, and those beyond. */
+    private static void noneAndAll() {
+        Check.sentence("How many: 0 letters of THE DRAFT, .. 6 MEANINGS. UNKNOWN.");
+        WordTables fresh = new WordTables(12);
+        WordTables full = Stage.full().told();
+        counts(fresh, new int[7]);
+        counts(full, Check.row(20, 40, 8, 80, 24, 12, 60));
+        for (int what : Check.beyond(0, 6)) {
+            Check.due("new: told(" + what + ")", fresh.told(what), Check.UNKNOWN);
+            Check.due("full: told(" + what + ")", full.told(what), Check.UNKNOWN);
+        }
+        full.read(3);
+        full.word(0, 0);
+        counts(full, Check.row(0, 40, 8, 0, 24, 12, 60));
+        full.read(0);
+        counts(full, Check.row(0, 40, 8, 0, 0, 12, 60));
     }
 
     private static void counts(WordTables t, int[] want) {
