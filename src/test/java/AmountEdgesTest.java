@@ -36,6 +36,8 @@ public final class AmountEdgesTest {
         int[] lengths = {1, 1, 0, 1, 1, 1};
         for (int i = 0; i < 6; i++) {
             Check.due("amount(" + i + ")", t.amount(i), amounts[i]);
+        }
+        for (int i = 0; i < 6; i++) {
             Check.due("amountLength(" + i + ")", t.amountLength(i), lengths[i]);
         }
     }
@@ -293,8 +295,10 @@ public final class AmountEdgesTest {
         int[] amounts = {20, 25, 5};
         int[] lengths = {1, 2, 1};
         for (int k = 0; k < places.length; k++) {
-            Check.due("amount(" + places[k] + ")", t.amount(places[k]), amounts[k]);
             Check.due("amountLength(" + places[k] + ")", t.amountLength(places[k]), lengths[k]);
+        }
+        for (int k = 0; k < places.length; k++) {
+            Check.due("amount(" + places[k] + ")", t.amount(places[k]), amounts[k]);
         }
         for (int i : Check.beyond(0, 23)) {
             Check.due("amount(" + i + ")", t.amount(i), Check.UNKNOWN);

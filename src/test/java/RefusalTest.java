@@ -72,15 +72,17 @@ public final class RefusalTest {
             Twins.refuse(USED, "in use letter(" + c + ")", OUTSIDE, t -> t.letter(c));
             Twins.refuse(FULL, "full letter(" + c + ")", OUTSIDE, t -> t.letter(c));
         }
+        Stage longDraft = Stage.used(Stage.LONG_DRAFT, "go");
         for (int c : new int[] {'A', 'Z', 'a', 'z', 128, 159}) {
             Twins.refuse(FULL, "full letter(" + c + ")", ROOM, t -> t.letter(c));
+            Twins.refuse(longDraft, "full draft letter(" + c + ")", ROOM, t -> t.letter(c));
         }
     }
 
     private static void word() {
         Check.sentence("Promise 4: OUTSIDE (THE DRAFT stays); STATE: THE DRAFT is empty; ROOM (it stays).");
-        Stage emptyDraft = Stage.full("", "");
-        Stage newDraft = Stage.full("abcdefghijkm", "");
+        Stage emptyDraft = Stage.full("", "go");
+        Stage newDraft = Stage.full("abcdefghijkm", "go");
         for (int language : Check.beyond(0, 2)) {
             Twins.refuse(USED, "word(" + language + ", 1)", OUTSIDE, t -> t.word(language, 1));
             Twins.refuse(FRESH, "empty: word(" + language + ", 1)", OUTSIDE, t -> t.word(language, 1));
@@ -94,6 +96,7 @@ public final class RefusalTest {
         for (int language = 0; language <= 2; language++) {
             int l = language;
             Twins.refuse(FRESH, "empty: word(" + l + ", 63)", STATE, t -> t.word(l, 63));
+            Twins.refuse(Stage.used("", "go"), "in use: word(" + l + ", 63)", STATE, t -> t.word(l, 63));
             Twins.refuse(emptyDraft, "empty and full: word(" + l + ", 63)", STATE, t -> t.word(l, 63));
             Twins.refuse(newDraft, "full: word(" + l + ", 63)", ROOM, t -> t.word(l, 63));
         }
@@ -139,8 +142,9 @@ public final class RefusalTest {
 
     private static void join() {
         Check.sentence("Promise 7: UNKNOWN; STATE: THE DRAFT is empty; ROOM.");
-        Stage emptyDraft = Stage.used("", "");
-        Stage fullEmptyDraft = Stage.full("", "");
+        Stage emptyDraft = Stage.used("", "go");
+        Stage fullEmptyDraft = Stage.full("", "go");
+        Stage shortDraft = Stage.full("abc", "go");
         for (int w : Check.beyond(0, WORDS - 1)) {
             Twins.refuse(USED, "join(" + w + ", lamp)", UNKNOWN, t -> t.join(w, LAMP));
             Twins.refuse(USED, "join(lamp, " + w + ")", UNKNOWN, t -> t.join(LAMP, w));
@@ -152,9 +156,10 @@ public final class RefusalTest {
             Twins.refuse(FULL, "full: join(0, " + w + ")", UNKNOWN, t -> t.join(0, w));
         }
         Twins.refuse(FRESH, "no words: join(0, 0)", UNKNOWN, t -> t.join(0, 0));
-        Twins.refuse(Stage.used("", "x"), "empty: join(0, 5)", STATE, t -> t.join(0, 5));
+        Twins.refuse(emptyDraft, "empty: join(0, 5)", STATE, t -> t.join(0, 5));
         Twins.refuse(fullEmptyDraft, "empty and full: join(0, 39)", STATE, t -> t.join(0, 39));
         Twins.refuse(FULL, "full: join(0, 39)", ROOM, t -> t.join(0, 39));
+        Twins.refuse(shortDraft, "full: join(39, 0)", ROOM, t -> t.join(39, 0));
     }
 
     private static void type() {
@@ -164,8 +169,10 @@ public final class RefusalTest {
             Twins.refuse(USED, "in use type(" + c + ")", OUTSIDE, t -> t.type(c));
             Twins.refuse(FULL, "full type(" + c + ")", OUTSIDE, t -> t.type(c));
         }
+        Stage longLine = Stage.used("lam", Stage.FULL_LINE);
         for (int c : new int[] {0, ' ', 'a', 255}) {
             Twins.refuse(FULL, "full type(" + c + ")", ROOM, t -> t.type(c));
+            Twins.refuse(longLine, "full line type(" + c + ")", ROOM, t -> t.type(c));
         }
     }
 
@@ -246,10 +253,12 @@ public final class RefusalTest {
     private static void thing() {
         Check.sentence("Promise 14: ROOM.");
         Twins.refuse(FULL, "a 13th", ROOM, t -> t.thing());
+        Twins.refuse(Stage.full("abc", "go"), "a 13th", ROOM, t -> t.thing());
     }
 
     private static void means() {
         Check.sentence("Promise 15: UNKNOWN: THING, WORD; OUTSIDE: the FLAG (NONE or 0 .. 7); ROOM.");
+        Stage shortDraft = Stage.full("abc", "go");
         Twins.refuse(FRESH, "nothing: means(0, 0, NONE)", UNKNOWN, t -> t.means(0, 0, NONE));
         for (int thing : Check.beyond(0, THINGS - 1)) {
             Twins.refuse(USED, "means(" + thing + ", 0, 0)", UNKNOWN, t -> t.means(thing, 0, 0));
@@ -266,6 +275,7 @@ public final class RefusalTest {
         for (int flag = NONE; flag <= 7; flag++) {
             int f = flag;
             Twins.refuse(FULL, "full: means(11, 39, " + f + ")", ROOM, t -> t.means(11, 39, f));
+            Twins.refuse(shortDraft, "full: means(0, 13, " + f + ")", ROOM, t -> t.means(0, 13, f));
         }
         Twins.refuse(FULL, "full: means(12, 39, 0)", UNKNOWN, t -> t.means(12, 39, 0));
         Twins.refuse(FULL, "full: means(11, 40, 0)", UNKNOWN, t -> t.means(11, 40, 0));

@@ -6,6 +6,8 @@ final class Stage {
     static final String FULL_LINE = Check.times('q', 79) + "!";
     static final String LONG_DRAFT = "abcdefghijklmnopqrst";
     private static final int FRESH = 0, USED = 1, FULL = 2;
+    /** One KIND is left out, as are most FLAGS, so that it shows where a refused call adds them. */
+    private static final int ALL_BUT_VERB = 62;
 
     final String draft;
     final String line;
@@ -35,7 +37,7 @@ final class Stage {
 
     /** All tables are full: 40 WORDS, 8 JOINS, 24 TOKENS, 12 THINGS, 60 MEANINGS. */
     static Stage full(String draft, String line) {
-        return new Stage(FULL, draft, line, "\u0080\u0081\u0082\u0083", "\u0080", "\u0087", "\u0088", "m n");
+        return new Stage(FULL, draft, line, "\u0080\u0081\u0082\u0083", "\u0080", "\u0081", "\u0087", "m n");
     }
 
     static Stage full() {
@@ -77,9 +79,9 @@ final class Stage {
     }
 
     private static void tellAll(WordTables t) {
-        Check.word(t, LONG_DRAFT, 0, 63);
+        Check.word(t, LONG_DRAFT, 0, ALL_BUT_VERB);
         for (int k = 0; k < 39; k++) {
-            Check.word(t, "" + (char) ('a' + k % 26), k / 26, 63);
+            Check.word(t, "" + (char) ('a' + k % 26), k / 26, ALL_BUT_VERB);
         }
         for (int k = 0; k < 8; k++) {
             Check.join(t, "" + (char) (0x80 + k), k, 39 - k);
@@ -90,11 +92,11 @@ final class Stage {
         for (int k = 0; k < 60; k++) {
             t.means(k % 12, 1 + k % 13, k % 9 - 1);
         }
-        t.flag(0, true);
+        t.flag(1, true);
         t.flag(7, true);
         t.value(1, 1000);
         t.plural(2, 1);
-        t.refer(1, 4095);
+        t.refer(1, 4093);
         Check.read(t, "a.b.c.d.e.f.g.h.i.j.k.l.", 0);
     }
 }

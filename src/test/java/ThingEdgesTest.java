@@ -358,7 +358,10 @@ public final class ThingEdgesTest {
         t.means(1, 1, Check.NONE);
         Check.due("read", Check.read(t, "a a a a a a a a a a a a a a a a a a a a a a ab", 0), 24);
         for (int i = 0; i < 24; i++) {
-            phrase(t, i, 2, 24 - i);
+            Check.due("phraseLength(" + i + ")", t.phraseLength(i), 24 - i);
+        }
+        for (int i = 0; i < 24; i++) {
+            Check.due("phrase(" + i + ")", t.phrase(i), 2);
         }
     }
 
