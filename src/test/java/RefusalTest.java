@@ -46,6 +46,7 @@ public final class RefusalTest {
         stage("fresh", FRESH, 0, 0, 0, 0, 0, 0, 0);
         stage("used", USED, 3, WORDS, 2, 6, TOKENS, THINGS, 3);
         stage("full", FULL, 20, 40, 8, 80, 24, 12, 60);
+        stage("many words", Stage.manyWords("abc", "go"), 3, 40, 8, 2, 0, 0, 0);
     }
 
     private static void fold() {
@@ -83,6 +84,7 @@ public final class RefusalTest {
         Check.sentence("Promise 4: OUTSIDE (THE DRAFT stays); STATE: THE DRAFT is empty; ROOM (it stays).");
         Stage emptyDraft = Stage.full("", "go");
         Stage newDraft = Stage.full("abcdefghijkm", "go");
+        Stage manyWords = Stage.manyWords("abcdefghijkm", "go");
         for (int language : Check.beyond(0, 2)) {
             Twins.refuse(USED, "word(" + language + ", 1)", OUTSIDE, t -> t.word(language, 1));
             Twins.refuse(FRESH, "empty: word(" + language + ", 1)", OUTSIDE, t -> t.word(language, 1));
@@ -99,6 +101,7 @@ public final class RefusalTest {
             Twins.refuse(Stage.used("", "go"), "in use: word(" + l + ", 63)", STATE, t -> t.word(l, 63));
             Twins.refuse(emptyDraft, "empty and full: word(" + l + ", 63)", STATE, t -> t.word(l, 63));
             Twins.refuse(newDraft, "full: word(" + l + ", 63)", ROOM, t -> t.word(l, 63));
+            Twins.refuse(manyWords, "full words: word(" + l + ", 63)", ROOM, t -> t.word(l, 63));
         }
         Twins.refuse(FULL, "full, like one of another language: word(1, 0)", ROOM, t -> t.word(1, 0));
     }
@@ -160,6 +163,7 @@ public final class RefusalTest {
         Twins.refuse(fullEmptyDraft, "empty and full: join(0, 39)", STATE, t -> t.join(0, 39));
         Twins.refuse(FULL, "full: join(0, 39)", ROOM, t -> t.join(0, 39));
         Twins.refuse(shortDraft, "full: join(39, 0)", ROOM, t -> t.join(39, 0));
+        Twins.refuse(Stage.manyWords("abc", "go"), "full joins: join(39, 0)", ROOM, t -> t.join(39, 0));
     }
 
     private static void type() {

@@ -5,7 +5,7 @@
 final class Stage {
     static final String FULL_LINE = Check.times('q', 79) + "!";
     static final String LONG_DRAFT = "abcdefghijklmnopqrst";
-    private static final int FRESH = 0, USED = 1, FULL = 2;
+    private static final int FRESH = 0, USED = 1, FULL = 2, MANY_WORDS = 3;
     /** One KIND is left out, as are most FLAGS, so that it shows where a refused call adds them. */
     private static final int ALL_BUT_VERB = 62;
 
@@ -44,12 +44,20 @@ final class Stage {
         return full(LONG_DRAFT, FULL_LINE);
     }
 
+    /** WORDS and JOINS alone are full: no TOKENS, THINGS, MEANINGS. */
+    static Stage manyWords(String draft, String line) {
+        return new Stage(MANY_WORDS, draft, line, "\u0080", "\u0081", "m n");
+    }
+
     WordTables told() {
         WordTables t = new WordTables(form == USED ? 4 : 12);
         if (form == USED) {
             tellSome(t);
         } else if (form == FULL) {
-            tellAll(t);
+            tellAllWords(t);
+            tellAllThings(t);
+        } else if (form == MANY_WORDS) {
+            tellAllWords(t);
         }
         Check.draft(t, draft);
         Check.line(t, line);
@@ -78,7 +86,7 @@ final class Stage {
         Check.read(t, "Lamp it,five goit 9:30pm \"a b\" 77", 1);
     }
 
-    private static void tellAll(WordTables t) {
+    private static void tellAllWords(WordTables t) {
         Check.word(t, LONG_DRAFT, 0, ALL_BUT_VERB);
         for (int k = 0; k < 39; k++) {
             Check.word(t, "" + (char) ('a' + k % 26), k / 26, ALL_BUT_VERB);
@@ -86,6 +94,9 @@ final class Stage {
         for (int k = 0; k < 8; k++) {
             Check.join(t, "" + (char) (0x80 + k), k, 39 - k);
         }
+    }
+
+    private static void tellAllThings(WordTables t) {
         for (int k = 0; k < 12; k++) {
             t.thing();
         }
