@@ -12,6 +12,7 @@ import java.util.regex.Pattern;
 
 /** The public face, the constants, and those rules of LANGUAGE.md that a look at the class can tell. */
 public final class FaceTest {
+    private static final Path SOURCE = Path.of("src/main/java/WordTables.java");
     private static final String[] METHODS = {"fold int int", "letter int", "word int int", "value int int",
         "plural int int", "join int int", "type int", "read int", "token int int", "at int int", "amount int",
         "amountLength int", "thing", "means int int int", "flag int boolean", "refer int int", "meant int",
@@ -22,7 +23,12 @@ public final class FaceTest {
         constants();
         methods();
         nestedClasses();
+        sizes(WordTables.class);
+        for (Class<?> nested : WordTables.class.getDeclaredClasses()) {
+            sizes(nested);
+        }
         source();
+        methodsAreShort();
         Check.end();
     }
 
@@ -95,8 +101,32 @@ public final class FaceTest {
         }
     }
 
+    /** Rule 11: at most seven parameters, and some twenty fields beside the constants. */
+    private static void sizes(Class<?> c) {
+        int fields = 0;
+        for (Field f : c.getDeclaredFields()) {
+            fields += Modifier.isStatic(f.getModifiers()) ? 0 : 1;
+        }
+        same(c + " has few fields", fields <= 20, true);
+        for (Method m : c.getDeclaredMethods()) {
+            same(m + " has few parameters", m.getParameterCount() <= 7, true);
+        }
+    }
+
+    /** Rule 11: a method that begins at a brace's line and ends at the brace that is indented like it. */
+    private static void methodsAreShort() throws IOException {
+        Pattern method = Pattern.compile("(?ms)^( {4}| {8})[^ /\n][^;\n]*\\([^;\n]*\\) \\{$.*?^\\1\\}$");
+        Matcher m = method.matcher(Files.readString(SOURCE));
+        int found = 0;
+        while (m.find()) {
+            found++;
+            same(m.group().lines().findFirst().orElse("") + " is short", m.group().lines().count() <= 60, true);
+        }
+        same("methods were looked at", found >= METHODS.length, true);
+    }
+
     private static void source() throws IOException {
-        String text = Files.readString(Path.of("src/main/java/WordTables.java"));
+        String text = Files.readString(SOURCE);
         String code = text.replaceAll("(?s)/\\*.*?\\*/", "").replaceAll("//[^\n]*", "");
         Pattern ruledOut = Pattern.compile("\\b(throw|throws|try|catch|synchronized|assert|import|package|System"
                 + "|Thread|Random|native|volatile|transient|hashCode|toString|Object)\\b|->|::|Exact\\b|@");
